@@ -5,6 +5,7 @@ public final class FreePort {
     /** By what a sale is barred. */
     public static final int FAILED = 1, SHORT = 2, CONSIGNED = 3, BARRED = 4, POOR = 5, PUNISHED = 6, FULL = 7;
 
+    private static final int NO_BAR = 0;
     private static final int MAX_PARTIES = 10;
     private static final int MAX_WORKS = 12;
     private static final int MAX_LOTS = 60;
@@ -165,7 +166,7 @@ public final class FreePort {
         Lot sold = lotAt(lot);
         Party taker = partyAt(buyer);
         requireOffer(sold, parts, taker, price);
-        requireState(barOfSale(sold, parts, taker, price) == 0);
+        requireState(barOfSale(sold, parts, taker, price) == NO_BAR);
         return carryOut(sold, parts, taker, price, sold.holder, 0);
     }
 
@@ -204,7 +205,7 @@ public final class FreePort {
             throw new IllegalStateException("no dealer");
         }
         requireState(price >= terms.floor && today <= terms.end);
-        requireState(barOfDeal(dealt, terms.dealer, taker, price) == 0);
+        requireState(barOfDeal(dealt, terms.dealer, taker, price) == NO_BAR);
         dealt.consignment = null;
         int commission = price * terms.percent / 100;
         return carryOut(dealt, dealt.parts, taker, price, terms.dealer, commission);
@@ -543,7 +544,7 @@ public final class FreePort {
         if (lot.isHeldByArtist() && buyer.isPunishedBy(work.artist)) {
             return PUNISHED;
         }
-        return lotCount < MAX_LOTS ? 0 : FULL;
+        return lotCount < MAX_LOTS ? NO_BAR : FULL;
     }
 
     private int carryOut(Lot lot, int parts, Party buyer, int price, Party seller, int commission) {
@@ -562,13 +563,14 @@ public final class FreePort {
     }
 
     private int shareOfArtist(Lot lot, int price) {
-        int land = lot.holder.land;
-        if (lot.isHeldByArtist() || land < 0 || land >= LANDS) {
-            return 0;
-        }
-        return price * rightPercents[land] / 100;
+        return lot.isHeldByArtist() ? 0 : price * rightOf(lot.holder.land) / 100;
     }
 
+    private int rightOf(int land) {
+        return land >= 0 && land < LANDS ? rightPercents[land] : 0;
+    }
+
+    /** The callers have seen that there is room; the index is looked at all the same. */
     private int keepLot(Lot lot) {
         if (lotCount < MAX_LOTS) {
             lots[lotCount] = lot;

@@ -102,6 +102,7 @@ final class LoansTest {
         Due.is("the lender has as much", 0, held().lend(1, OTHER, 2000, 0, 1));
         Due.notNow(LoansTest::lent, "it has a loan", x -> x.lend(1, OTHER, 1, 0, 1));
         Due.outOfRange(LoansTest::lent, "it has a loan, amount 0", x -> x.lend(1, OTHER, 0, 0, 1));
+        Due.outOfRange(LoansTest::lent, "it has a loan, by the holder", x -> x.lend(1, HOUSE, 1, 0, 1));
         Supplier<FreePort> dealt = () -> after(held(), x -> x.consign(1, OTHER, 0, 0, 0));
         Due.notNow(dealt, "it has a dealer", x -> x.lend(1, BANK, 1, 0, 1));
         Due.notNow(() -> after(held(), x -> x.fail(HOUSE)), "the holder has failed", x -> x.lend(1, BANK, 1, 0, 1));
@@ -160,6 +161,20 @@ final class LoansTest {
         Due.is("to the lender then, though failed", 2000, assigned.repay(0));
         Due.is("to the lender then", 4000, assigned.ofParty(OTHER, 0));
         Due.is("with all its money", 2000, poorer(0).repay(0));
+        FreePort first = ofTheFirstLot();
+        first.repay(0);
+        Due.is("the first lot has it no more", -1, first.ofLot(0, 3));
+    }
+
+    /** The BANK lends the ARTIST, who holds the lot 0, of 60 parts of a work of 1000. */
+    private static FreePort ofTheFirstLot() {
+        FreePort port = new FreePort();
+        port.party(0, 0);
+        port.party(0, 0);
+        port.party(500, 0);
+        port.work(ARTIST, 1000);
+        port.lend(0, BANK, 500, 0, 1);
+        return port;
     }
 
     /** The HOUSE has the 2000 that it owes, or less by so much. */
@@ -207,6 +222,8 @@ final class LoansTest {
         Due.is("7000 is not more than 7000", 0, even.ofLoan(0, 4));
         even.value(0, 999);
         Due.is("7000 is more than 6993", 1, even.ofLoan(0, 4));
+        Due.is("the first lot counts", 0, ofTheFirstLot().ofLoan(0, 4));
+        Due.notNow(LoansTest::ofTheFirstLot, "the first lot counts", x -> x.seize(0));
         FreePort spread = held();
         spread.lend(1, BANK, 700, 0, 10);
         spread.sell(1, 30, OTHER, 0);

@@ -1,11 +1,15 @@
 import java.util.function.IntSupplier;
 
-/** Writes down all that a FreePort tells, for comparing two of them; the port is spent then. */
+/** Writes down what a FreePort tells, for comparing two of them; the port is spent then. */
 final class Look {
+    /** A port's answers behind its 512th call are free: this leaves the rest of them for making the port. */
+    private static final int MOST_CALLS = 430;
     private static final int NO_SUCH = Integer.MIN_VALUE;
+    private static final int REFUSED = NO_SUCH + 1;
 
     private final FreePort port;
     private final StringBuilder seen = new StringBuilder();
+    private int calls = 0;
 
     private Look(FreePort port) {
         this.port = port;
@@ -15,12 +19,15 @@ final class Look {
         Look look = new Look(port);
         int parties = look.rows("party", 7, port::ofParty);
         int works = look.rows("work", 6, port::ofWork);
-        int lots = look.rows("lot", 9, port::ofLot);
         look.rows("loan", 6, port::ofLoan);
+        int lots = look.rows("lot", 9, port::ofLot);
         look.prices(lots, parties);
         look.wordsAndPapers(works);
         look.seen.append(" index ").append(port.index());
         look.whatChangesTell(parties, works, lots);
+        if (look.calls > MOST_CALLS) {
+            throw new AssertionError(look.calls + " calls are too many for a look");
+        }
         return look.seen.toString();
     }
 
@@ -28,56 +35,64 @@ final class Look {
         int ask(int number, int what);
     }
 
+    /** Of very many rows it looks at the first ones alone, and counts the others. */
     private int rows(String name, int whats, Question question) {
         int number = 0;
-        while (isThere(question, number)) {
-            seen.append(' ').append(name).append(number);
-            for (int what = 0; what < whats; what++) {
-                seen.append(what == 0 ? ':' : ',').append(question.ask(number, what));
+        int first = answer(() -> question.ask(0, 0));
+        while (first != NO_SUCH) {
+            seen.append(' ').append(name).append(number).append(':').append(first);
+            int at = number;
+            for (int what = 1; what < whats && number < 12; what++) {
+                int asked = what;
+                seen.append(',').append(answer(() -> question.ask(at, asked)));
             }
             number++;
+            first = answer(() -> question.ask(at + 1, 0));
         }
         return number;
     }
 
-    private static boolean isThere(Question question, int number) {
-        return answer(() -> question.ask(number, 0)) != NO_SUCH;
-    }
-
     private void prices(int lots, int parties) {
-        for (int lot = 0; lot < lots; lot++) {
+        for (int lot = 0; lot < lots && lot < 12; lot++) {
             seen.append(" prices").append(lot);
             for (int party = 0; party < parties; party++) {
-                seen.append(party == 0 ? ':' : ',').append(port.price(lot, party));
+                int at = lot;
+                int asker = party;
+                seen.append(party == 0 ? ':' : ',').append(answer(() -> port.price(at, asker)));
             }
         }
     }
 
     private void wordsAndPapers(int works) {
         for (int work = 0; work < works; work++) {
-            seen.append(" doubt").append(work).append(':').append(port.doubt(work, 0));
-            seen.append(" gaps").append(work).append(':').append(port.gaps(work, 1900, 2000));
-            seen.append(',').append(port.gaps(work, 1900, 1950)).append(',').append(port.gaps(work, 1930, 1970));
+            int at = work;
+            seen.append(" doubt").append(work).append(':').append(answer(() -> port.doubt(at, 0)));
+            seen.append(" gaps").append(work).append(':').append(answer(() -> port.gaps(at, 1900, 2000)));
+            seen.append(',').append(answer(() -> port.gaps(at, 1900, 1950)));
+            seen.append(',').append(answer(() -> port.gaps(at, 1930, 1970)));
         }
     }
 
     /** What no question tells comes out as the answer of a change. */
     private void whatChangesTell(int parties, int works, int lots) {
-        for (int lot = 0; lot < lots; lot++) {
+        for (int lot = 0; lot < lots && lot < 12; lot++) {
             int at = lot;
-            if (port.ofLot(lot, 4) != FreePort.NONE) {
-                seen.append(" dealt").append(lot).append(':').append(answer(() -> port.deal(at, port.ofLot(at, 4), 0)));
+            int dealer = answer(() -> port.ofLot(at, 4));
+            if (dealer != FreePort.NONE) {
+                seen.append(" dealt").append(lot).append(':').append(answer(() -> port.deal(at, dealer, 0)));
             }
         }
         for (int land = 0; land < 4; land++) {
-            seen.append(" right:").append(port.right(land, 0));
+            int at = land;
+            seen.append(" right:").append(answer(() -> port.right(at, 0)));
         }
         for (int party = 0; party < parties; party++) {
-            seen.append(" weight:").append(port.weight(party, 0));
+            int at = party;
+            seen.append(" weight:").append(answer(() -> port.weight(at, 0)));
         }
         for (int work = 0; work < works; work++) {
             int at = work;
-            seen.append(" told:").append(port.value(work, 0));
+            seen.append(" told:").append(answer(() -> port.value(at, 0)));
             seen.append(" words:").append(answer(() -> port.word(0, at, true)));
         }
         seen.append(" day:").append(answer(() -> port.pass(1)));
@@ -85,13 +100,14 @@ final class Look {
         seen.append(" parties:").append(answer(() -> port.party(0, 0)));
     }
 
-    private static int answer(IntSupplier call) {
+    private int answer(IntSupplier call) {
+        calls++;
         try {
             return call.getAsInt();
         } catch (IndexOutOfBoundsException e) {
             return NO_SUCH;
         } catch (IllegalArgumentException | IllegalStateException e) {
-            return NO_SUCH + 1;
+            return REFUSED;
         }
     }
 }

@@ -207,6 +207,10 @@ final class QuestionsTest {
         port.lend(2, 4, 30, 0, 5);
         Due.is("owed to 3 by two loans", 30, port.ofParty(3, 3));
         Due.is("owed to 4", 30, port.ofParty(4, 3));
+        port.work(0, 100);
+        port.lend(3, 4, 5, 0, 5);
+        Due.is("owed by 0 by two loans", 15, port.ofParty(0, 2));
+        port.repay(3);
         port.sell(1, 60, 0, 1);
         Due.is("the borrower owes, not the holder", 20, port.ofParty(1, 2));
         Due.is("who holds two lots with loans", 10, port.ofParty(0, 2));
@@ -269,6 +273,8 @@ final class QuestionsTest {
         port.weight(FIRST, 1);
         port.word(FIRST, 1, true);
         Due.is("a doubt below 0", 19, port.ofWork(1, 0));
+        port.sell(2, 1, SECOND, 0);
+        Due.is("a lot of a single part", 2, port.ofWork(1, 5));
         Due.noSuch(QuestionsTest::sold, "ofWork(1, 6)", x -> x.ofWork(1, 6));
         Due.noSuch(QuestionsTest::sold, "ofWork(-1, 0)", x -> x.ofWork(-1, 0));
         Due.outOfRange(QuestionsTest::sold, "ofWork(0, 6)", x -> x.ofWork(0, 6));
@@ -384,6 +390,9 @@ final class QuestionsTest {
         Due.is("the latest of a day", 2, port.doubt(0, 3));
         port.weight(THIRD, 9);
         Due.is("by the weights now", 11, port.doubt(0, 2));
+        port.weight(ARTIST, 1);
+        port.word(ARTIST, 0, false);
+        Due.is("the first party's word", 12, port.doubt(0, 3));
         Due.noSuch(QuestionsTest::sold, "doubt(1, -1)", x -> x.doubt(1, -1));
         Due.noSuch(QuestionsTest::sold, "doubt(-1, 0)", x -> x.doubt(-1, 0));
         Due.outOfRange(QuestionsTest::sold, "doubt(0, -1)", x -> x.doubt(0, -1));

@@ -90,6 +90,15 @@ final class SalesTest {
         Due.is("the rest is the holder's", 9001 + 194, port.ofParty(SECOND, 0));
         port.sell(3, 10, THIRD, 1000);
         Due.is("the artist is the holder: all of it", 1105 + 1000, port.ofParty(ARTIST, 0));
+        FreePort compatriots = new FreePort();
+        compatriots.party(0, 0);
+        compatriots.party(0, 0);
+        compatriots.party(100, 3);
+        compatriots.work(0, 0);
+        compatriots.right(0, 20);
+        compatriots.sell(0, 60, 1, 0);
+        compatriots.sell(1, 60, 2, 100);
+        Due.is("20 percent of land 0", 20, compatriots.ofParty(0, 0));
     }
 
     private static void promise15Flips() {
@@ -109,6 +118,16 @@ final class SalesTest {
         Due.is("for all works of the artist", FreePort.PUNISHED, port.bars(4, 1, FIRST, 0));
         port.work(SECOND, 0);
         Due.is("not for another artist's", 0, port.bars(5, 1, FIRST, 0));
+        FreePort twice = soldToFirst();
+        twice.sell(1, 1, SECOND, 0);
+        twice.sell(1, 1, SECOND, 0);
+        Due.is("punished twice is punished", 1, twice.ofParty(FIRST, 6));
+        FreePort soldLater = fresh();
+        soldLater.pass(90);
+        soldLater.sell(0, 40, FIRST, 0);
+        soldLater.pass(100);
+        soldLater.sell(1, 1, SECOND, 0);
+        Due.is("sold on day 90, and on day 190", 1, soldLater.ofParty(FIRST, 6));
         FreePort late = soldToFirst();
         late.pass(101);
         late.sell(1, 1, SECOND, 0);
@@ -227,6 +246,7 @@ final class SalesTest {
         Due.noSuch(made, "consign(2, ..)", x -> x.consign(2, SECOND, -1, 0, 0));
         Due.noSuch(made, "consign(-1, ..)", x -> x.consign(-1, SECOND, 0, 0, 0));
         Due.noSuch(made, "consign to 4", x -> x.consign(1, 4, 0, 51, 0));
+        Due.noSuch(made, "consign to 4 for -1", x -> x.consign(1, 4, -1, 0, 0));
         Due.noSuch(made, "consign to -1", x -> x.consign(1, -1, 0, 0, 1001));
         Due.outOfRange(made, "floor -1", x -> x.consign(1, SECOND, -1, 0, 0));
         Due.outOfRange(made, "floor 1000001", x -> x.consign(1, SECOND, 1000001, 0, 0));
@@ -399,6 +419,9 @@ final class SalesTest {
         Due.is("no price", -1, port.price(2, SECOND));
         Due.is("sold later, to its holder himself", SECOND, port.restore(3, SECOND));
         Due.is("by no sale then", -1, port.ofLot(3, 6));
+        FreePort single = looted();
+        single.sell(1, 1, SECOND, 0);
+        Due.is("a single part", SECOND, single.restore(4, THIRD));
         FreePort dealt = looted();
         dealt.consign(2, THIRD, 0, 0, 9);
         dealt.restore(2, ARTIST);
