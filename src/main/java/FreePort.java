@@ -700,7 +700,7 @@ public final class FreePort {
         }
 
         private boolean isPunishedBy(Party artist) {
-            return (punishers & 1 << artist.number) != 0;
+            return (punishers & (1 << artist.number)) != 0;
         }
     }
 
@@ -844,7 +844,7 @@ public final class FreePort {
         }
 
         private boolean isKnownTo(Party party) {
-            return (knowers & 1 << party.number) != 0;
+            return (knowers & (1 << party.number)) != 0;
         }
 
         private long riseSince(Sale ahead) {
