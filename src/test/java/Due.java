@@ -5,8 +5,18 @@ import java.util.function.Supplier;
 final class Due {
     private static int asked = 0;
     private static int wrong = 0;
+    private static String about = "";
 
     private Due() {
+    }
+
+    static int asked() {
+        return asked;
+    }
+
+    /** What the answers that follow are due by; it is told with the first one that is wrong. */
+    static void about(String sentence) {
+        about = sentence;
     }
 
     static void is(String call, long want, long got) {
@@ -42,22 +52,33 @@ final class Due {
         refuses(IllegalStateException.class, made, call, doing);
     }
 
+    /** The call throws nothing. */
+    static void taken(Supplier<FreePort> made, String call, Consumer<FreePort> doing) {
+        same(call + " throws", "nothing", thrownBy(made.get(), doing));
+    }
+
     private static void refuses(Class<?> kind, Supplier<FreePort> made, String call, Consumer<FreePort> doing) {
         FreePort port = made.get();
-        String thrown = "nothing";
+        String before = Inside.of(port);
+        same(call + " throws", kind.getSimpleName(), thrownBy(port, doing));
+        same(call + " leaves inside", before, Inside.of(port));
+        same(call + " leaves behind", Look.at(made.get()), Look.at(port));
+    }
+
+    static String thrownBy(FreePort port, Consumer<FreePort> doing) {
         try {
             doing.accept(port);
+            return "nothing";
         } catch (RuntimeException e) {
-            thrown = e.getClass().getSimpleName();
+            return e.getClass().getSimpleName();
         }
-        same(call + " throws", kind.getSimpleName(), thrown);
-        same(call + " leaves behind", Look.at(made.get()), Look.at(port));
     }
 
     private static void tellWrong(String line) {
         wrong++;
         if (wrong <= 20) {
-            System.out.println(line);
+            System.out.println(about.isEmpty() ? line : "By " + about + ":\n  " + line);
+            about = "";
         }
     }
 

@@ -5,11 +5,16 @@ import java.util.Arrays;
 import java.util.HashMap;
 import java.util.List;
 import java.util.Map;
+import java.util.Set;
 
 /** Lets FreePort and Model answer the same long runs of calls; each run is the same every time. */
 final class ModelTest {
     private static final int RUNS = 2400;
     private static final int CALLS = 512;
+    /** Of so many runs one is looked at inside too, as that takes long. */
+    private static final int LOOKED_AT = 8;
+    private static final Set<String> QUESTIONS = Set.of(
+        "bars", "barredBy", "price", "ofParty", "ofWork", "ofLot", "ofLoan", "doubt", "gaps", "index");
     private static final int[] FAR = {-1, Integer.MIN_VALUE, Integer.MAX_VALUE, 1000001, 62, 1 << 16};
 
     /** How often each call stands in a run, by the kind of the run; a call that is not named stands once. */
@@ -38,6 +43,7 @@ final class ModelTest {
     private final List<String> deck = new ArrayList<>();
     private final StringBuilder told = new StringBuilder();
     private final int wildness;
+    private String inside = Inside.of(port);
 
     private ModelTest(int run) {
         dice = new Dice(run);
@@ -101,12 +107,23 @@ final class ModelTest {
         String got = answer(OF_PORT.get(name), port, arguments);
         String call = name + Arrays.toString(arguments);
         told.append(call).append(" -> ").append(due).append('\n');
+        if (run % LOOKED_AT == 0) {
+            lookInside("run " + run + ": " + call, QUESTIONS.contains(name) || got.endsWith("Exception"));
+        }
         if (due.equals(got)) {
             Due.is(call, true, true);
             return true;
         }
         Due.same("run " + run + ", after\n" + told + call, due, got);
         return false;
+    }
+
+    private void lookInside(String call, boolean isTheSame) {
+        String before = inside;
+        inside = Inside.of(port);
+        if (isTheSame) {
+            Due.is(call + " changes nothing", true, before.equals(inside));
+        }
     }
 
     private static String answer(Method method, Object on, Object[] arguments) {
