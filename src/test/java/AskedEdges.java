@@ -38,14 +38,7 @@ final class AskedEdges {
         Edge.ranged(Scenes::sold, "parts", 1, 60, (x, parts) -> offer.asked(x, 1, parts, SECOND, 0));
         Edge.ranged(Scenes::sold, "price", 0, 1000000, (x, price) -> offer.asked(x, 1, 1, SECOND, price));
         Doc.promise(promise, "- buyer: a party, other than the HOLDER");
-        for (int buyer = 0; buyer < 4; buyer++) {
-            int who = buyer;
-            if (who == FIRST) {
-                Due.outOfRange(Scenes::sold, "the HOLDER", x -> offer.asked(x, 1, 1, who, 0));
-            } else {
-                Due.taken(Scenes::sold, "buyer " + who, x -> offer.asked(x, 1, 1, who, 0));
-            }
-        }
+        Edge.another(Scenes::sold, "buyer", (x, who) -> offer.asked(x, 1, 1, who, 0), FIRST);
     }
 
     private static void price() {
@@ -142,8 +135,8 @@ final class AskedEdges {
         Edge.numbered(Scenes::sold, "ofWork", 1, (x, work) -> x.ofWork(work, 0));
         Doc.promise(29, BAD_WHAT);
         Edge.ranged(Scenes::sold, "what", 0, 5, (x, what) -> x.ofWork(0, what));
-        Doc.promise(29, "- what: 0 its VALUE, 1 its land, 2 whether it is sealed (1 or 0), 3 the days that are left of "
-            + "its bar, 4 the day of its listing, NONE without one, 5 how many lots of it have PARTS");
+        Doc.promise(29, "- what: 0 its VALUE, 1 its land, 2 whether it is sealed (1 or 0), 3 the days that are left "
+            + "of its bar, 4 the day of its listing, NONE without one, 5 how many lots of it have PARTS");
         FreePort port = Scenes.sold();
         int[] before = {600, 0, 0, 0, FreePort.NONE, 2};
         for (int what = 0; what <= 5; what++) {
@@ -184,8 +177,8 @@ final class AskedEdges {
         Edge.numbered(() -> Scenes.lots(60), "ofLot", 60, (x, lot) -> x.ofLot(lot, 8));
         Doc.promise(30, BAD_WHAT);
         Edge.ranged(Scenes::sold, "what", 0, 8, (x, what) -> x.ofLot(1, what));
-        Doc.promise(30, "- what: 0 its work, 1 its HOLDER, 2 its PARTS, 3 its LOAN, 4 its DEALER, 5 the lot from which "
-            + "it came, 6 the day of its SALE, 7 its WORTH, 8 its chain; NONE for 3 to 6 without one");
+        Doc.promise(30, "- what: 0 its work, 1 its HOLDER, 2 its PARTS, 3 its LOAN, 4 its DEALER, 5 the lot from "
+            + "which it came, 6 the day of its SALE, 7 its WORTH, 8 its chain; NONE for 3 to 6 without one");
         int[] none = {0, ARTIST, 20, FreePort.NONE, FreePort.NONE, FreePort.NONE, FreePort.NONE, 200, 0};
         int[] sold = {0, FIRST, 40, FreePort.NONE, FreePort.NONE, 0, 0, 400, 1};
         int[] pledged = {0, FIRST, 40, 0, SECOND, 0, 0, 400, 1};
@@ -212,9 +205,9 @@ final class AskedEdges {
         Due.noSuch(Scenes::sold, "ofLoan(0, 0) without loans", x -> x.ofLoan(0, 0));
         Doc.promise(31, BAD_WHAT);
         Edge.ranged(Scenes::lent, "what", 0, 5, (x, what) -> x.ofLoan(0, what));
-        Doc.promise(31, "- what: 0 its borrower, 1 its lender, 2 what is owed by it, 0 if it is gone, 3 the day it is "
-            + "due, 4 whether it could be seized (1 or 0; 0 if it is gone), whether its lender has FAILED or not, "
-            + "5 whether it is gone (1 or 0)");
+        Doc.promise(31, "- what: 0 its borrower, 1 its lender, 2 what is owed by it, 0 if it is gone, 3 the day it "
+            + "is due, 4 whether it could be seized (1 or 0; 0 if it is gone), whether its lender has FAILED or "
+            + "not, 5 whether it is gone (1 or 0)");
         Supplier<FreePort> due = Scenes.passed(Scenes::lent, 10);
         Supplier<FreePort> late = Scenes.passed(Scenes::lent, 11);
         loanIs("on the day it is due", due, FIRST, SECOND, 210, 10, 0, 0);
@@ -262,7 +255,8 @@ final class AskedEdges {
         port.paper(0, 1900, 2000);
         Due.is("none", 0, port.gaps(0, 1900, 2000));
         Doc.promise(33, "- work: its number", NO_WORK);
-        Edge.numbered(Scenes.after(Scenes::fresh, x -> x.work(FIRST, 0)), "gaps", 2, (x, work) -> x.gaps(work, 1950, 1950));
+        Edge.numbered(Scenes.after(Scenes::fresh, x -> x.work(FIRST, 0)), "gaps", 2,
+            (x, work) -> x.gaps(work, 1950, 1950));
         Doc.promise(33, "- from: 1900 to 2000", "Throws IllegalArgumentException if from or to is out of range");
         Edge.ranged(Scenes::fresh, "from", 1900, 2000, (x, from) -> x.gaps(0, from, 2000));
         Doc.promise(33, "- to: from to 2000");

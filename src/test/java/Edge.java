@@ -31,4 +31,20 @@ final class Edge {
             Due.outOfRange(made, call + " with " + out, x -> doing.on(x, out));
         }
     }
+
+    /** One of the parties 0 to 3: those that may not be it are out of range, the others are taken. */
+    static void another(Supplier<FreePort> made, String call, Call doing, int... not) {
+        for (int party = 0; party < 4; party++) {
+            int who = party;
+            boolean isRefused = false;
+            for (int refused : not) {
+                isRefused |= refused == who;
+            }
+            if (isRefused) {
+                Due.outOfRange(made, call + " " + who, x -> doing.on(x, who));
+            } else {
+                Due.taken(made, call + " " + who, x -> doing.on(x, who));
+            }
+        }
+    }
 }

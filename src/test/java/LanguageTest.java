@@ -28,7 +28,8 @@ final class LanguageTest {
     public static void main(String[] args) throws IOException {
         String text = Files.readString(PROGRAM, StandardCharsets.UTF_8);
         Due.is("signs are 1 to 127", true, text.chars().allMatch(sign -> sign > 0 && sign < 128));
-        String code = text.replaceAll("(?s)/\\*.*?\\*/", " ").replaceAll("//[^\n]*", " ").replaceAll("\"[^\"\n]*\"", "\"\"");
+        String code = text.replaceAll("(?s)/\\*.*?\\*/", " ").replaceAll("//[^\n]*", " ")
+            .replaceAll("\"[^\"\n]*\"", "\"\"");
         onlyWhatTheRulesLeave(code);
         onlyTheLibraryThatTheRulesLeave(code);
         noMethodIsLong(code);

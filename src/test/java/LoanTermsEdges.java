@@ -87,8 +87,8 @@ final class LoanTermsEdges {
     }
 
     private static void owed() {
-        Doc.terms("What is owed by it is the amount, and the amount times the percent times the days gone since its day, "
-            + "divided by 10000.");
+        Doc.terms("What is owed by it is the amount, and the amount times the percent times the days gone since its "
+            + "day, divided by 10000.");
         int[][] loans = {
             {1, 100, 99, 1}, {1, 100, 100, 2}, {3, 1, 3333, 3}, {3, 1, 3334, 4}, {200, 50, 0, 200}, {200, 0, 999, 200},
             {7, 13, 109, 7}, {7, 13, 110, 8}, {500000, 100, 20000, 100500000}, {500000, 99, 19999, 99495050},
@@ -126,7 +126,8 @@ final class LoanTermsEdges {
     }
 
     private static void gone() {
-        Doc.terms("A loan is paid back by its borrower, or seized by its lender, and is gone then: no lot has it any more.");
+        Doc.terms("A loan is paid back by its borrower, or seized by its lender, and is gone then: no lot has it "
+            + "any more.");
         FreePort paid = Scenes.lent();
         paid.sell(1, 30, THIRD, 0);
         paid.repay(0);
@@ -163,8 +164,8 @@ final class LoanTermsEdges {
 
     /** On day 10 FIRST owes 210; ten times that is seven times 300. */
     private static void margin() {
-        Doc.terms("A loan can be seized, if today is behind the day it is due, or if ten times what is owed by it is more "
-            + "than seven times the WORTH of all lots that have it, together.");
+        Doc.terms("A loan can be seized, if today is behind the day it is due, or if ten times what is owed by it "
+            + "is more than seven times the WORTH of all lots that have it, together.");
         Due.notNow(Scenes.passed(Scenes::lent, 10), "on the day it is due", x -> x.seize(0));
         Due.taken(Scenes.passed(Scenes::lent, 11), "a day behind it", x -> x.seize(0));
         Supplier<FreePort> split = Scenes.passed(Scenes.after(Scenes::lent, x -> {
@@ -203,15 +204,16 @@ final class LoanTermsEdges {
         });
         Due.notNow(doubted, "2000 of seven times 299", x -> x.seize(0));
         Due.taken(Scenes.passed(doubted, 10), "2100 of seven times 299", x -> x.seize(0));
-        Supplier<FreePort> great = Scenes.passed(Scenes.after(Scenes::rich, x -> x.lend(1, SECOND, 500000, 100, 1000)), 1000);
+        Supplier<FreePort> great =
+            Scenes.passed(Scenes.after(Scenes::rich, x -> x.lend(1, SECOND, 500000, 100, 1000)), 1000);
         Due.is("owed 5500000, worth 1000000, on the day it is due", 1, great.get().ofLoan(0, 4));
         Due.taken(great, "it can be seized", x -> x.seize(0));
     }
 
     private static void seized() {
-        Doc.terms("All lots that have it, those with 0 PARTS too, are the lender's then: their HOLDER is the lender, they "
-            + "have no DEALER, and are taken to have come by no SALE, also by the chains and the index of lots that came "
-            + "from them.");
+        Doc.terms("All lots that have it, those with 0 PARTS too, are the lender's then: their HOLDER is the "
+            + "lender, they have no DEALER, and are taken to have come by no SALE, also by the chains and the "
+            + "index of lots that came from them.");
         FreePort port = Scenes.lent();
         port.sell(1, 40, THIRD, 1000);
         port.sell(2, 10, ARTIST, 500);
@@ -253,7 +255,8 @@ final class LoanTermsEdges {
         listed.list(0);
         listed.pass(1);
         Due.is("the day", 2, listed.ofWork(0, 4));
-        Doc.terms("A lot of a work that is listed is given back to an heir, if it came by a SALE on that day or later:");
+        Doc.terms("A lot of a work that is listed is given back to an heir, if it came by a SALE on that day or "
+            + "later:");
         int[][] days = {{1, 0, 0}, {0, 0, 1}, {0, 1, 1}, {0, 900, 1}};
         for (int[] row : days) {
             Supplier<FreePort> made = Scenes.after(Scenes.passed(Scenes::fresh, 5), x -> {
@@ -273,7 +276,8 @@ final class LoanTermsEdges {
                 Due.notNow(made, "a day ahead of it", x -> x.restore(1, THIRD));
             }
         }
-        Doc.terms("its HOLDER is the heir then, without a DEALER, and it is taken to have come by no SALE; its LOAN stays.");
+        Doc.terms("its HOLDER is the heir then, without a DEALER, and it is taken to have come by no SALE; its LOAN "
+            + "stays.");
         FreePort port = Scenes.looted();
         port.sell(2, 4, ARTIST, 60);
         port.lend(2, FIRST, 5, 0, 9);
@@ -292,9 +296,9 @@ final class LoanTermsEdges {
 
     private static void chains() {
         Doc.leavesFree("Terms", "\nChains, the index\n");
-        Doc.terms("The chain of a lot is the number of SALES, one behind the other, by which it came to its HOLDER: 0 if it "
-            + "came by none; otherwise 1, and as many as the chain of the lot from which it came, if that came by a SALE "
-            + "at most 7 days ahead of its own.");
+        Doc.terms("The chain of a lot is the number of SALES, one behind the other, by which it came to its HOLDER: "
+            + "0 if it came by none; otherwise 1, and as many as the chain of the lot from which it came, if that "
+            + "came by a SALE at most 7 days ahead of its own.");
         Due.is("by none", 0, Scenes.sold().ofLot(0, 8));
         Due.is("by one, from a lot by none", 1, Scenes.sold().ofLot(1, 8));
         int[][] days = {{0, 2}, {1, 2}, {6, 2}, {7, 2}, {8, 1}, {1000, 1}};
@@ -335,9 +339,10 @@ final class LoanTermsEdges {
     }
 
     private static void index() {
-        Doc.terms("The index is, over all lots that came by a SALE from a lot that came by a SALE (each with prices above "
-            + "0), the sum of 1000 times the price times the PARTS of that SALE ahead, divided by (the price of the SALE "
-            + "ahead times the PARTS of this SALE), each by itself, divided by how many there are.");
+        Doc.terms("The index is, over all lots that came by a SALE from a lot that came by a SALE (each with prices "
+            + "above 0), the sum of 1000 times the price times the PARTS of that SALE ahead, divided by (the "
+            + "price of the SALE ahead times the PARTS of this SALE), each by itself, divided by how many there "
+            + "are.");
         int[][] prices = {{1, 1, 60000}, {1, 0, -1}, {0, 1, -1}, {0, 0, -1}, {3, 1, 20000}, {10000, 1, 6}};
         for (int[] row : prices) {
             FreePort port = Scenes.fresh();

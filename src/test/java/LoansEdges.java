@@ -29,14 +29,7 @@ final class LoansEdges {
         Edge.numbered(() -> Scenes.lots(5), "lend on", 5, (x, lot) -> x.lend(lot, THIRD, 1, 0, 1));
         Edge.numbered(Scenes::sold, "lend by", 4, (x, lender) -> x.lend(1, lender, 1, 0, 1));
         Doc.promise(21, "- lender: a party, other than the HOLDER");
-        for (int lender = 0; lender < 4; lender++) {
-            int who = lender;
-            if (who == FIRST) {
-                Due.outOfRange(Scenes::sold, "by the HOLDER", x -> x.lend(1, who, 1, 0, 1));
-            } else {
-                Due.taken(Scenes::sold, "by " + who, x -> x.lend(1, who, 1, 0, 1));
-            }
-        }
+        Edge.another(Scenes::sold, "by", (x, who) -> x.lend(1, who, 1, 0, 1), FIRST);
         Doc.promise(21, "- amount: 1 to 1000000", "- percent: 0 to 100",
             "Throws IllegalArgumentException if amount, percent or days is out of range, or the lender is the HOLDER");
         Edge.ranged(Scenes::sold, "percent", 0, 100, (x, percent) -> x.lend(1, SECOND, 1, percent, 1));
@@ -193,10 +186,7 @@ final class LoansEdges {
         Supplier<FreePort> rich = Scenes.after(Scenes::rich, x -> x.lend(1, SECOND, 5, 0, 1));
         Edge.ranged(rich, "price", 0, 1000000, (x, price) -> x.assign(0, THIRD, price));
         Doc.promise(24, "- party: a party, other than the lender and the borrower");
-        Due.taken(Scenes::lent, "to the artist", x -> x.assign(0, ARTIST, 0));
-        Due.outOfRange(Scenes::lent, "to the borrower", x -> x.assign(0, FIRST, 0));
-        Due.outOfRange(Scenes::lent, "to the lender", x -> x.assign(0, SECOND, 0));
-        Due.taken(Scenes::lent, "to another", x -> x.assign(0, THIRD, 0));
+        Edge.another(Scenes::lent, "to", (x, who) -> x.assign(0, who, 0), FIRST, SECOND);
         Supplier<FreePort> assigned = Scenes.after(Scenes::lent, x -> x.assign(0, THIRD, 0));
         Due.outOfRange(assigned, "to the lender then", x -> x.assign(0, THIRD, 0));
         Due.taken(assigned, "to the lender before", x -> x.assign(0, SECOND, 0));
@@ -206,8 +196,8 @@ final class LoansEdges {
     }
 
     private static void assignRefused() {
-        Doc.promise(24, "Throws IllegalStateException if it is gone, the lender or the party has FAILED, "
-            + "or the party has less MONEY");
+        Doc.promise(24, "Throws IllegalStateException if it is gone, the lender or the party has FAILED, or the "
+            + "party has less MONEY");
         Due.notNow(Scenes.after(Scenes::lent, x -> x.repay(0)), "paid back", x -> x.assign(0, THIRD, 0));
         Supplier<FreePort> seized = Scenes.after(Scenes.passed(Scenes::lent, 11), x -> x.seize(0));
         Due.notNow(seized, "seized", x -> x.assign(0, THIRD, 0));

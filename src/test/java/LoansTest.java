@@ -38,15 +38,6 @@ final class LoansTest {
         return port;
     }
 
-    private interface Step {
-        void take(FreePort port);
-    }
-
-    private static FreePort after(FreePort port, Step step) {
-        step.take(port);
-        return port;
-    }
-
     private static void loanIs(FreePort port, String name, int loan, int... due) {
         for (int what = 0; what < due.length; what++) {
             Due.is(name + ": ofLoan(" + loan + ", " + what + ")", due[what], port.ofLoan(loan, what));
@@ -76,7 +67,7 @@ final class LoansTest {
 
     /** OTHER holds lot 2 of 10 parts, worth 1000. */
     private static FreePort part() {
-        return after(held(), x -> x.sell(1, 10, OTHER, 0));
+        return Scenes.after(held(), x -> x.sell(1, 10, OTHER, 0));
     }
 
     private static void promise21Refusals() {
@@ -94,7 +85,7 @@ final class LoansTest {
         Due.outOfRange(made, "by the holder", x -> x.lend(1, HOUSE, 1, 0, 1));
         Due.notNow(made, "amount 1000000 is in the range", x -> x.lend(1, BANK, 1000000, 0, 1));
         Due.notNow(made, "twice the amount is more than the worth", x -> x.lend(1, BANK, 3001, 0, 1));
-        Supplier<FreePort> odd = () -> after(held(), x -> x.value(0, 101));
+        Supplier<FreePort> odd = () -> Scenes.after(held(), x -> x.value(0, 101));
         Due.is("twice 50 is not", 0, odd.get().lend(1, BANK, 50, 0, 1));
         Due.notNow(odd, "twice 51 is more than 101", x -> x.lend(1, BANK, 51, 0, 1));
         Due.notNow(made, "on a lot of 0 parts", x -> x.lend(0, BANK, 1, 0, 1));
@@ -103,11 +94,13 @@ final class LoansTest {
         Due.notNow(LoansTest::lent, "it has a loan", x -> x.lend(1, OTHER, 1, 0, 1));
         Due.outOfRange(LoansTest::lent, "it has a loan, amount 0", x -> x.lend(1, OTHER, 0, 0, 1));
         Due.outOfRange(LoansTest::lent, "it has a loan, by the holder", x -> x.lend(1, HOUSE, 1, 0, 1));
-        Supplier<FreePort> dealt = () -> after(held(), x -> x.consign(1, OTHER, 0, 0, 0));
+        Supplier<FreePort> dealt = () -> Scenes.after(held(), x -> x.consign(1, OTHER, 0, 0, 0));
         Due.notNow(dealt, "it has a dealer", x -> x.lend(1, BANK, 1, 0, 1));
-        Due.notNow(() -> after(held(), x -> x.fail(HOUSE)), "the holder has failed", x -> x.lend(1, BANK, 1, 0, 1));
-        Due.notNow(() -> after(held(), x -> x.fail(BANK)), "the lender has failed", x -> x.lend(1, BANK, 1, 0, 1));
-        Supplier<FreePort> doubted = () -> after(held(), x -> {
+        Due.notNow(() -> Scenes.after(held(), x -> x.fail(HOUSE)), "the holder has failed",
+            x -> x.lend(1, BANK, 1, 0, 1));
+        Due.notNow(() -> Scenes.after(held(), x -> x.fail(BANK)), "the lender has failed",
+            x -> x.lend(1, BANK, 1, 0, 1));
+        Supplier<FreePort> doubted = () -> Scenes.after(held(), x -> {
             x.weight(OTHER, 1);
             x.word(OTHER, 0, false);
         });
@@ -188,18 +181,19 @@ final class LoansTest {
     private static void promise22Refusals() {
         Due.noSuch(LoansTest::lent, "repay(1)", x -> x.repay(1));
         Due.noSuch(LoansTest::lent, "repay(-1)", x -> x.repay(-1));
-        Due.notNow(() -> after(lent(), x -> x.repay(0)), "repay(0) again", x -> x.repay(0));
-        Due.notNow(() -> after(after(lent(), x -> x.pass(11)), x -> x.seize(0)), "repay(0) seized", x -> x.repay(0));
-        Due.notNow(() -> after(lent(), x -> x.fail(HOUSE)), "the borrower has failed", x -> x.repay(0));
+        Due.notNow(() -> Scenes.after(lent(), x -> x.repay(0)), "repay(0) again", x -> x.repay(0));
+        Due.notNow(() -> Scenes.after(Scenes.after(lent(), x -> x.pass(11)), x -> x.seize(0)), "repay(0) seized",
+            x -> x.repay(0));
+        Due.notNow(() -> Scenes.after(lent(), x -> x.fail(HOUSE)), "the borrower has failed", x -> x.repay(0));
         Due.notNow(() -> poorer(1), "the borrower has less", x -> x.repay(0));
-        Due.notNow(() -> after(poorer(0), x -> x.pass(1)), "less than with a day's percent", x -> x.repay(0));
+        Due.notNow(() -> Scenes.after(poorer(0), x -> x.pass(1)), "less than with a day's percent", x -> x.repay(0));
     }
 
     private static void promise23SeizeWhenDue() {
         FreePort port = lent();
         port.pass(10);
         Due.is("on the day it is due", 0, port.ofLoan(0, 4));
-        Due.notNow(() -> after(lent(), x -> x.pass(10)), "seize on the day it is due", x -> x.seize(0));
+        Due.notNow(() -> Scenes.after(lent(), x -> x.pass(10)), "seize on the day it is due", x -> x.seize(0));
         port.pass(1);
         Due.is("behind it", 1, port.ofLoan(0, 4));
         Due.is("seize(0)", 1, port.seize(0));
@@ -275,17 +269,17 @@ final class LoansTest {
     }
 
     private static void promise23Refusals() {
-        Supplier<FreePort> late = () -> after(lent(), x -> x.pass(11));
+        Supplier<FreePort> late = () -> Scenes.after(lent(), x -> x.pass(11));
         Due.noSuch(late, "seize(1)", x -> x.seize(1));
         Due.noSuch(late, "seize(-1)", x -> x.seize(-1));
         Due.notNow(LoansTest::lent, "it cannot be seized", x -> x.seize(0));
-        Due.notNow(() -> after(late.get(), x -> x.seize(0)), "gone", x -> x.seize(0));
-        Due.notNow(() -> after(lent(), x -> {
+        Due.notNow(() -> Scenes.after(late.get(), x -> x.seize(0)), "gone", x -> x.seize(0));
+        Due.notNow(() -> Scenes.after(lent(), x -> {
             x.repay(0);
             x.pass(11);
         }), "paid back", x -> x.seize(0));
-        Due.notNow(() -> after(late.get(), x -> x.fail(BANK)), "the lender has failed", x -> x.seize(0));
-        Due.is("the borrower may have failed", 1, after(late.get(), x -> x.fail(HOUSE)).seize(0));
+        Due.notNow(() -> Scenes.after(late.get(), x -> x.fail(BANK)), "the lender has failed", x -> x.seize(0));
+        Due.is("the borrower may have failed", 1, Scenes.after(late.get(), x -> x.fail(HOUSE)).seize(0));
     }
 
     private static void promise24Assign() {
@@ -303,7 +297,7 @@ final class LoansTest {
         port.pass(20);
         Due.is("seized by the one who is the lender then", 1, port.seize(0));
         Due.is("his", ARTIST, port.ofLot(1, 1));
-        Due.is("a failed borrower", BANK, after(lent(), x -> x.fail(HOUSE)).assign(0, OTHER, 0));
+        Due.is("a failed borrower", BANK, Scenes.after(lent(), x -> x.fail(HOUSE)).assign(0, OTHER, 0));
     }
 
     private static void promise24Refusals() {
@@ -318,11 +312,11 @@ final class LoansTest {
         Due.outOfRange(made, "to the borrower", x -> x.assign(0, HOUSE, 0));
         Due.notNow(made, "the party has less", x -> x.assign(0, OTHER, 2001));
         Due.notNow(made, "1000000 is in the range", x -> x.assign(0, OTHER, 1000000));
-        Supplier<FreePort> gone = () -> after(lent(), x -> x.repay(0));
+        Supplier<FreePort> gone = () -> Scenes.after(lent(), x -> x.repay(0));
         Due.notNow(gone, "gone", x -> x.assign(0, OTHER, 0));
         Due.outOfRange(gone, "gone, to the lender", x -> x.assign(0, BANK, 0));
         Due.outOfRange(gone, "gone, to the borrower", x -> x.assign(0, HOUSE, 0));
-        Due.notNow(() -> after(lent(), x -> x.fail(BANK)), "the lender has failed", x -> x.assign(0, OTHER, 0));
-        Due.notNow(() -> after(lent(), x -> x.fail(OTHER)), "the party has failed", x -> x.assign(0, OTHER, 0));
+        Due.notNow(() -> Scenes.after(lent(), x -> x.fail(BANK)), "the lender has failed", x -> x.assign(0, OTHER, 0));
+        Due.notNow(() -> Scenes.after(lent(), x -> x.fail(OTHER)), "the party has failed", x -> x.assign(0, OTHER, 0));
     }
 }

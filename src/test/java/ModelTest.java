@@ -161,13 +161,15 @@ final class ModelTest {
             case "sell":
             case "bars":
             case "barredBy": return all(lot, parts(lot), party, price(party));
-            case "consign": return all(lot, party, dice.below(2) == 0 ? 0 : price(other), wild(dice.below(51), 51), days());
+            case "consign":
+                return all(lot, party, dice.below(2) == 0 ? 0 : price(other), wild(dice.below(51), 51), days());
             case "back": return all(consigned(lot));
             case "deal": return deal(consigned(lot), party);
             case "tell": return tell(lot, party, other);
             case "price": return all(lot, party);
             case "restore": return all(lot, party);
-            case "lend": return all(lot, party, amount(lot), wild(dice.below(101), 101), wild(1 + dice.below(40), 1001));
+            case "lend":
+                return all(lot, party, amount(lot), wild(dice.below(101), 101), wild(1 + dice.below(40), 1001));
             case "repay":
             case "seize": return all(loan);
             case "assign": return all(loan, party, price(party));

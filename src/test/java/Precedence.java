@@ -214,10 +214,14 @@ final class Precedence {
             .numbered(0, 2).ranged(1, 1, 60).numbered(2, 4).not(2, FIRST).ranged(3, 0, 1000000).where(Scenes::sold);
         new Precedence("price", (x, a) -> x.price(a[0], a[1]), 1, FIRST)
             .numbered(0, 2).numbered(1, 4).where(Scenes::sold);
-        new Precedence("ofParty", (x, a) -> x.ofParty(a[0], a[1]), 3, 6).numbered(0, 4).ranged(1, 0, 6).where(Scenes::lent);
-        new Precedence("ofWork", (x, a) -> x.ofWork(a[0], a[1]), 0, 5).numbered(0, 1).ranged(1, 0, 5).where(Scenes::lent);
-        new Precedence("ofLot", (x, a) -> x.ofLot(a[0], a[1]), 1, 8).numbered(0, 2).ranged(1, 0, 8).where(Scenes::lent);
-        new Precedence("ofLoan", (x, a) -> x.ofLoan(a[0], a[1]), 0, 5).numbered(0, 1).ranged(1, 0, 5).where(Scenes::lent);
+        new Precedence("ofParty", (x, a) -> x.ofParty(a[0], a[1]), 3, 6)
+            .numbered(0, 4).ranged(1, 0, 6).where(Scenes::lent);
+        new Precedence("ofWork", (x, a) -> x.ofWork(a[0], a[1]), 0, 5)
+            .numbered(0, 1).ranged(1, 0, 5).where(Scenes::lent);
+        new Precedence("ofLot", (x, a) -> x.ofLot(a[0], a[1]), 1, 8)
+            .numbered(0, 2).ranged(1, 0, 8).where(Scenes::lent);
+        new Precedence("ofLoan", (x, a) -> x.ofLoan(a[0], a[1]), 0, 5)
+            .numbered(0, 1).ranged(1, 0, 5).where(Scenes::lent);
         new Precedence("doubt", (x, a) -> x.doubt(a[0], a[1]), 0, 3)
             .numbered(0, 1).ranged(1, 0, 7).where(Scenes.passed(Scenes::sold, 7));
         new Precedence("gaps", (x, a) -> x.gaps(a[0], a[1], a[2]), 0, 1950, 1960)

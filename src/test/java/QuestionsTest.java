@@ -37,46 +37,38 @@ final class QuestionsTest {
         return port;
     }
 
-    private interface Step {
-        void take(FreePort port);
-    }
-
-    private static FreePort after(FreePort port, Step step) {
-        step.take(port);
-        return port;
-    }
-
-    private static void barred(FreePort port, String why, int lot, int parts, int buyer, int price, int by, int number) {
+    private static void barred(FreePort port, String why, int lot, int parts, int buyer, int price, int by,
+        int number) {
         Due.is(why + ": bars", by, port.bars(lot, parts, buyer, price));
         Due.is(why + ": barredBy", number, port.barredBy(lot, parts, buyer, price));
     }
 
     private static void promises25And26EachBar() {
         barred(sold(), "by nothing", 1, 40, SECOND, 10000, 0, FreePort.NONE);
-        barred(after(sold(), x -> x.fail(FIRST)), "the holder", 1, 1, SECOND, 0, FreePort.FAILED, FIRST);
-        barred(after(sold(), x -> x.fail(SECOND)), "the buyer", 1, 1, SECOND, 0, FreePort.FAILED, SECOND);
-        FreePort both = after(sold(), x -> x.fail(SECOND));
+        barred(Scenes.after(sold(), x -> x.fail(FIRST)), "the holder", 1, 1, SECOND, 0, FreePort.FAILED, FIRST);
+        barred(Scenes.after(sold(), x -> x.fail(SECOND)), "the buyer", 1, 1, SECOND, 0, FreePort.FAILED, SECOND);
+        FreePort both = Scenes.after(sold(), x -> x.fail(SECOND));
         both.fail(FIRST);
         barred(both, "the holder ahead of the buyer", 1, 1, SECOND, 0, FreePort.FAILED, FIRST);
-        barred(after(sold(), x -> x.fail(THIRD)), "another", 1, 1, SECOND, 0, 0, FreePort.NONE);
+        barred(Scenes.after(sold(), x -> x.fail(THIRD)), "another", 1, 1, SECOND, 0, 0, FreePort.NONE);
         barred(sold(), "a part is missing", 1, 41, SECOND, 0, FreePort.SHORT, 1);
         barred(sold(), "20 parts are missing", 1, 60, SECOND, 0, FreePort.SHORT, 20);
-        FreePort consigned = after(sold(), x -> x.consign(1, THIRD, 0, 0, 0));
+        FreePort consigned = Scenes.after(sold(), x -> x.consign(1, THIRD, 0, 0, 0));
         barred(consigned, "consigned", 1, 1, SECOND, 0, FreePort.CONSIGNED, THIRD);
         consigned.pass(1);
         barred(consigned, "consigned, though ended", 1, 1, SECOND, 0, FreePort.CONSIGNED, THIRD);
         barred(consigned, "consigned to the buyer", 1, 1, THIRD, 0, FreePort.CONSIGNED, THIRD);
-        FreePort kept = after(sold(), x -> x.bar(0, 9));
+        FreePort kept = Scenes.after(sold(), x -> x.bar(0, 9));
         kept.pass(4);
         barred(kept, "a bar", 1, 1, SECOND, 0, FreePort.BARRED, 5);
         barred(kept, "a buyer of the land of the work", 1, 1, ARTIST, 0, 0, FreePort.NONE);
-        FreePort elsewhere = after(sold(), x -> x.bring(0, 2));
+        FreePort elsewhere = Scenes.after(sold(), x -> x.bring(0, 2));
         elsewhere.bar(0, 9);
         barred(elsewhere, "the work is in the buyer's land now", 1, 1, SECOND, 0, 0, FreePort.NONE);
         barred(elsewhere, "and not in the artist's", 1, 1, ARTIST, 0, FreePort.BARRED, 9);
         barred(sold(), "1 is missing", 1, 1, SECOND, 10001, FreePort.POOR, 1);
         barred(sold(), "999900 are missing", 1, 1, ARTIST, 1000000, FreePort.POOR, 1000000 - 1100);
-        FreePort flipped = after(sold(), x -> x.sell(1, 1, SECOND, 0));
+        FreePort flipped = Scenes.after(sold(), x -> x.sell(1, 1, SECOND, 0));
         barred(flipped, "punished", 0, 1, FIRST, 0, FreePort.PUNISHED, ARTIST);
         barred(flipped, "not by another holder", 2, 1, FIRST, 0, 0, FreePort.NONE);
         barred(full(), "60 lots", 0, 1, 1, 0, FreePort.FULL, 60);
@@ -96,7 +88,7 @@ final class QuestionsTest {
 
     /** Where all of them hold, then one less each time, from the first on. */
     private static void promises25And26TheFirstBar() {
-        FreePort failed = after(allButFailed(), x -> x.fail(1));
+        FreePort failed = Scenes.after(allButFailed(), x -> x.fail(1));
         barred(failed, "all", 0, 2, 1, 51, FreePort.FAILED, 1);
         barred(allButFailed(), "all but FAILED", 0, 2, 1, 51, FreePort.SHORT, 1);
         barred(allButFailed(), "from CONSIGNED on", 0, 1, 1, 51, FreePort.CONSIGNED, 3);
@@ -364,7 +356,7 @@ final class QuestionsTest {
         }
         Due.is("the most that is owed", 500000 + 100000000, great.ofLoan(0, 2));
         Due.is("by the borrower", 100500000, great.ofParty(1, 2));
-        Supplier<FreePort> made = () -> after(sold(), x -> x.lend(1, THIRD, 1, 0, 1));
+        Supplier<FreePort> made = () -> Scenes.after(sold(), x -> x.lend(1, THIRD, 1, 0, 1));
         Due.noSuch(made, "ofLoan(1, 6)", x -> x.ofLoan(1, 6));
         Due.noSuch(made, "ofLoan(-1, 0)", x -> x.ofLoan(-1, 0));
         Due.outOfRange(made, "ofLoan(0, 6)", x -> x.ofLoan(0, 6));
@@ -397,7 +389,7 @@ final class QuestionsTest {
         Due.noSuch(QuestionsTest::sold, "doubt(-1, 0)", x -> x.doubt(-1, 0));
         Due.outOfRange(QuestionsTest::sold, "doubt(0, -1)", x -> x.doubt(0, -1));
         Due.outOfRange(QuestionsTest::sold, "doubt(0, 1)", x -> x.doubt(0, 1));
-        Due.outOfRange(() -> after(sold(), x -> x.pass(4)), "doubt(0, 5) on day 4", x -> x.doubt(0, 5));
+        Due.outOfRange(() -> Scenes.after(sold(), x -> x.pass(4)), "doubt(0, 5) on day 4", x -> x.doubt(0, 5));
     }
 
     private static void promise33Gaps() {
@@ -433,7 +425,8 @@ final class QuestionsTest {
         Due.is("nor behind a price of 0", 2750, port.index());
         port.sell(3, 10, FIRST, 1);
         Due.is("1500 and 4000 and 0", 1833, port.index());
-        Due.is("lots that came by a sale from a lot by none", -1, after(sold(), x -> x.sell(0, 1, FIRST, 9)).index());
+        Due.is("lots that came by a sale from a lot by none", -1,
+            Scenes.after(sold(), x -> x.sell(0, 1, FIRST, 9)).index());
     }
 
     private static void promise34EachByItself() {
@@ -459,7 +452,7 @@ final class QuestionsTest {
     }
 
     private static void questionsChangeNothing() {
-        Supplier<FreePort> made = () -> after(sold(), x -> {
+        Supplier<FreePort> made = () -> Scenes.after(sold(), x -> {
             x.lend(1, THIRD, 100, 10, 3);
             x.word(FIRST, 0, false);
             x.paper(0, 1950, 1960);

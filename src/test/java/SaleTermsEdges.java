@@ -47,7 +47,8 @@ final class SaleTermsEdges {
     }
 
     private static void failed() {
-        Doc.terms("FAILED 1, the HOLDER or the buyer has FAILED;", "FAILED: the HOLDER, if that has FAILED, otherwise the buyer;");
+        Doc.terms("FAILED 1, the HOLDER or the buyer has FAILED;",
+            "FAILED: the HOLDER, if that has FAILED, otherwise the buyer;");
         int[] offer = offer(1, 1, SECOND, 0);
         Supplier<FreePort> holder = Scenes.after(Scenes::sold, x -> x.fail(FIRST));
         Supplier<FreePort> buyer = Scenes.after(Scenes::sold, x -> x.fail(SECOND));
@@ -80,8 +81,8 @@ final class SaleTermsEdges {
     }
 
     private static void barred() {
-        Doc.terms("BARRED 4, the work has an export bar, and the buyer is of another land than that in which the work is;",
-            "BARRED: the days that are left of the bar;");
+        Doc.terms("BARRED 4, the work has an export bar, and the buyer is of another land than that in which the "
+            + "work is;", "BARRED: the days that are left of the bar;");
         Supplier<FreePort> week = Scenes.after(Scenes::sold, x -> x.bar(0, 7));
         int[] offer = offer(1, 1, SECOND, 0);
         isBarred("no bar", Scenes::sold, offer, 0, FreePort.NONE);
@@ -198,8 +199,8 @@ final class SaleTermsEdges {
     }
 
     private static void flips() {
-        Doc.terms("If the HOLDER is not the artist, and the lot came by a SALE from a lot that the artist held at that "
-            + "SALE, at most 100 days ago, the artist punishes the HOLDER from now on.");
+        Doc.terms("If the HOLDER is not the artist, and the lot came by a SALE from a lot that the artist held at "
+            + "that SALE, at most 100 days ago, the artist punishes the HOLDER from now on.");
         int[][] days = {{0, 1}, {99, 1}, {100, 1}, {101, 0}, {1000, 0}};
         for (int[] row : days) {
             for (int begun : new int[] {0, 3}) {
@@ -216,7 +217,8 @@ final class SaleTermsEdges {
         FreePort longAgo = Scenes.passed(Scenes::flipped, 20000).get();
         Due.is("from now on", FreePort.PUNISHED, longAgo.bars(0, 1, FIRST, 0));
         FreePort refused = Scenes.sold();
-        Due.same("a sale that is barred", "IllegalStateException", Due.thrownBy(refused, x -> x.sell(1, 41, SECOND, 0)));
+        Due.same("a sale that is barred", "IllegalStateException",
+            Due.thrownBy(refused, x -> x.sell(1, 41, SECOND, 0)));
         Due.is("is no flip", 0, refused.ofParty(FIRST, 6));
     }
 
@@ -259,7 +261,8 @@ final class SaleTermsEdges {
     }
 
     private static void consigned() {
-        Doc.terms("A lot can be consigned to a DEALER, with a floor, a percent, and an end, the day after so many days.");
+        Doc.terms("A lot can be consigned to a DEALER, with a floor, a percent, and an end, the day after so many "
+            + "days.");
         FreePort port = Scenes.passed(Scenes::sold, 3).get();
         port.consign(1, SECOND, 70, 10, 4);
         Due.is("its DEALER", SECOND, port.ofLot(1, 4));
@@ -326,8 +329,8 @@ final class SaleTermsEdges {
     }
 
     private static void dealt() {
-        Doc.terms("The buyer pays the price; the price times the percent, divided by 100, is the DEALER's; "
-            + "the artist gets as by a sale; the rest is the HOLDER's; flips are punished as by a sale.");
+        Doc.terms("The buyer pays the price; the price times the percent, divided by 100, is the DEALER's; the "
+            + "artist gets as by a sale; the rest is the HOLDER's; flips are punished as by a sale.");
         int[][] percents = {{0, 0, 0, 0}, {50, 20, 499, 199}, {1, 0, 9, 0}, {0, 1, 0, 9}, {25, 10, 249, 99}};
         for (int[] row : percents) {
             FreePort port = Scenes.sold();
@@ -375,8 +378,8 @@ final class SaleTermsEdges {
     }
 
     private static void known() {
-        Doc.terms("The price of a SALE is known to the buyer, and to the HOLDER, or, if it was dealt, to the DEALER in "
-            + "place of the HOLDER; and to whom those tell it who know it.");
+        Doc.terms("The price of a SALE is known to the buyer, and to the HOLDER, or, if it was dealt, to the DEALER "
+            + "in place of the HOLDER; and to whom those tell it who know it.");
         FreePort port = Scenes.fresh();
         port.sell(0, 10, SECOND, 5);
         port.consign(0, THIRD, 0, 0, 0);
@@ -388,7 +391,8 @@ final class SaleTermsEdges {
             Due.is("dealt: party " + party, dealt[party], port.price(2, party));
             Due.is("by none: party " + party, FreePort.NONE, port.price(0, party));
         }
-        Due.same("the HOLDER that dealt it tells", "IllegalStateException", Due.thrownBy(port, x -> x.tell(2, ARTIST, SECOND)));
+        Due.same("the HOLDER that dealt it tells", "IllegalStateException",
+            Due.thrownBy(port, x -> x.tell(2, ARTIST, SECOND)));
         Due.is("told by the DEALER", false, port.tell(2, THIRD, ARTIST));
         Due.is("it is known", 7, port.price(2, ARTIST));
         Due.is("told on", false, port.tell(2, ARTIST, SECOND));

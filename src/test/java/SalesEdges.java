@@ -38,14 +38,7 @@ final class SalesEdges {
         Edge.ranged(Scenes::fresh, "parts", 1, 60, (x, parts) -> x.sell(0, parts, FIRST, 0));
         Edge.ranged(Scenes::rich, "price", 0, 1000000, (x, price) -> x.sell(1, 1, SECOND, price));
         Doc.promise(15, "- buyer: a party, other than the HOLDER");
-        for (int buyer = 0; buyer < 4; buyer++) {
-            int who = buyer;
-            if (who == FIRST) {
-                Due.outOfRange(Scenes::sold, "to the HOLDER", x -> x.sell(1, 1, who, 0));
-            } else {
-                Due.taken(Scenes::sold, "to " + who, x -> x.sell(1, 1, who, 0));
-            }
-        }
+        Edge.another(Scenes::sold, "to", (x, who) -> x.sell(1, 1, who, 0), FIRST);
         Due.outOfRange(Scenes::fresh, "to the HOLDER of the first lot", x -> x.sell(0, 1, ARTIST, 0));
     }
 
@@ -75,14 +68,7 @@ final class SalesEdges {
         Edge.ranged(Scenes::sold, "floor", 0, 1000000, (x, floor) -> x.consign(1, SECOND, floor, 0, 0));
         Edge.ranged(Scenes::sold, "percent", 0, 50, (x, percent) -> x.consign(1, SECOND, 0, percent, 0));
         Doc.promise(16, "- dealer: a party, other than the HOLDER");
-        for (int dealer = 0; dealer < 4; dealer++) {
-            int who = dealer;
-            if (who == FIRST) {
-                Due.outOfRange(Scenes::sold, "to the HOLDER", x -> x.consign(1, who, 0, 0, 0));
-            } else {
-                Due.taken(Scenes::sold, "to " + who, x -> x.consign(1, who, 0, 0, 0));
-            }
-        }
+        Edge.another(Scenes::sold, "to", (x, who) -> x.consign(1, who, 0, 0, 0), FIRST);
         Doc.promise(16, "- days: 0 to 1000: the end is that many days from today");
         Edge.ranged(Scenes::sold, "days", 0, 1000, (x, days) -> x.consign(1, SECOND, 0, 0, days));
         for (int days : new int[] {0, 1, 999, 1000}) {
@@ -149,19 +135,12 @@ final class SalesEdges {
         Supplier<FreePort> rich = Scenes.after(Scenes::rich, x -> x.consign(1, SECOND, 0, 50, 0));
         Edge.ranged(rich, "price", 0, 1000000, (x, price) -> x.deal(1, THIRD, price));
         Doc.promise(18, "- buyer: a party, other than the HOLDER");
-        for (int buyer = 0; buyer < 4; buyer++) {
-            int who = buyer;
-            if (who == FIRST) {
-                Due.outOfRange(Scenes::consigned, "to the HOLDER", x -> x.deal(1, who, 500));
-            } else {
-                Due.taken(Scenes::consigned, "to " + who, x -> x.deal(1, who, 500));
-            }
-        }
+        Edge.another(Scenes::consigned, "to", (x, who) -> x.deal(1, who, 500), FIRST);
     }
 
     private static void dealRefused() {
-        Doc.promise(18, "Throws IllegalStateException if it has no DEALER, the price is below the floor, "
-            + "today is behind the end, or it is barred");
+        Doc.promise(18, "Throws IllegalStateException if it has no DEALER, the price is below the floor, today is "
+            + "behind the end, or it is barred");
         Due.notNow(Scenes::sold, "no DEALER", x -> x.deal(1, THIRD, 500));
         Due.notNow(Scenes::consigned, "below the floor", x -> x.deal(1, THIRD, 499));
         Due.taken(Scenes::consigned, "for the floor", x -> x.deal(1, THIRD, 500));
@@ -198,7 +177,8 @@ final class SalesEdges {
     }
 
     private static void tell() {
-        Doc.promise(19, "Tells a party the price of the SALE by which a lot came.", "Returns whether that one knew it.");
+        Doc.promise(19, "Tells a party the price of the SALE by which a lot came.",
+            "Returns whether that one knew it.");
         FreePort port = Scenes.sold();
         Due.is("to one who does not", false, port.tell(1, FIRST, SECOND));
         Due.is("to one who was told", true, port.tell(1, FIRST, SECOND));
@@ -209,10 +189,7 @@ final class SalesEdges {
         Edge.numbered(Scenes::sold, "tell", 2, (x, lot) -> x.tell(lot, FIRST, SECOND));
         Edge.numbered(Scenes::sold, "tell by", 4, (x, who) -> x.tell(1, who, SECOND));
         Edge.numbered(Scenes::sold, "tell to", 4, (x, whom) -> x.tell(1, FIRST, whom));
-        for (int whom = 0; whom < 4; whom++) {
-            int who = whom;
-            Due.taken(Scenes::sold, "told to " + who, x -> x.tell(1, ARTIST, who));
-        }
+        Edge.another(Scenes::sold, "told to", (x, who) -> x.tell(1, ARTIST, who));
         Doc.promise(19, "Throws IllegalStateException if it came by no SALE, or the first one does not know the price");
         Due.notNow(Scenes::sold, "by none", x -> x.tell(0, ARTIST, FIRST));
         Supplier<FreePort> returned = Scenes.after(Scenes::looted, x -> x.restore(2, THIRD));
@@ -232,15 +209,12 @@ final class SalesEdges {
         Doc.promise(20, "- lot: its number", "- heir: a party", NO_LOT_OR_PARTY);
         Edge.numbered(Scenes::looted, "restore", 3, (x, lot) -> x.restore(lot, THIRD));
         Edge.numbered(Scenes::looted, "restore to", 4, (x, heir) -> x.restore(2, heir));
-        for (int heir = 0; heir < 4; heir++) {
-            int who = heir;
-            Due.taken(Scenes::looted, "to " + who, x -> x.restore(2, who));
-        }
+        Edge.another(Scenes::looted, "to", (x, who) -> x.restore(2, who));
     }
 
     private static void restoreRefused() {
-        Doc.promise(20, "Throws IllegalStateException if it has 0 PARTS, its work is not listed, it came by no SALE, "
-            + "or by one ahead of the day of listing, or the heir has FAILED");
+        Doc.promise(20, "Throws IllegalStateException if it has 0 PARTS, its work is not listed, it came by no "
+            + "SALE, or by one ahead of the day of listing, or the heir has FAILED");
         Due.taken(Scenes.after(Scenes::looted, x -> x.sell(2, 9, THIRD, 0)), "1 part", x -> x.restore(2, THIRD));
         Due.notNow(Scenes.after(Scenes::looted, x -> x.sell(2, 10, THIRD, 0)), "0 parts", x -> x.restore(2, THIRD));
         Due.notNow(Scenes::sold, "not listed", x -> x.restore(1, THIRD));

@@ -160,29 +160,20 @@ final class SalesTest {
         Due.notNow(SalesTest::soldToFirst, "SHORT", x -> x.sell(1, 41, SECOND, 0));
         Due.notNow(SalesTest::soldToFirst, "POOR", x -> x.sell(1, 1, SECOND, 10001));
         Due.is("not POOR", 2, port.sell(1, 1, SECOND, 10000));
-        Supplier<FreePort> holderFailed = () -> after(soldToFirst(), x -> x.fail(FIRST));
+        Supplier<FreePort> holderFailed = () -> Scenes.after(soldToFirst(), x -> x.fail(FIRST));
         Due.notNow(holderFailed, "FAILED, the holder", x -> x.sell(1, 1, SECOND, 0));
-        Supplier<FreePort> buyerFailed = () -> after(soldToFirst(), x -> x.fail(SECOND));
+        Supplier<FreePort> buyerFailed = () -> Scenes.after(soldToFirst(), x -> x.fail(SECOND));
         Due.notNow(buyerFailed, "FAILED, the buyer", x -> x.sell(1, 1, SECOND, 0));
-        Supplier<FreePort> consigned = () -> after(soldToFirst(), x -> x.consign(1, THIRD, 0, 0, 5));
+        Supplier<FreePort> consigned = () -> Scenes.after(soldToFirst(), x -> x.consign(1, THIRD, 0, 0, 5));
         Due.notNow(consigned, "CONSIGNED", x -> x.sell(1, 1, SECOND, 0));
-        Supplier<FreePort> barred = () -> after(soldToFirst(), x -> x.bar(0, 5));
+        Supplier<FreePort> barred = () -> Scenes.after(soldToFirst(), x -> x.bar(0, 5));
         Due.notNow(barred, "BARRED", x -> x.sell(1, 1, SECOND, 0));
         Due.is("not BARRED: a buyer of the land of the work", 2, barred.get().sell(1, 1, ARTIST, 0));
-        Supplier<FreePort> punished = () -> after(soldToFirst(), x -> x.sell(1, 1, SECOND, 0));
+        Supplier<FreePort> punished = () -> Scenes.after(soldToFirst(), x -> x.sell(1, 1, SECOND, 0));
         Due.notNow(punished, "PUNISHED", x -> x.sell(0, 1, FIRST, 0));
         Due.notNow(SalesTest::full, "FULL", x -> x.sell(0, 1, SECOND, 0));
         Due.is("the work of the 60th", 0, full().ofLot(59, 0));
         Due.notNow(SalesTest::full, "FULL", x -> x.sell(59, 1, SECOND, 0));
-    }
-
-    private interface Step {
-        void take(FreePort port);
-    }
-
-    private static FreePort after(FreePort port, Step step) {
-        step.take(port);
-        return port;
     }
 
     /** 60 lots: 59 sold off the first one, which has a part left. */
@@ -222,11 +213,12 @@ final class SalesTest {
         port.consign(0, FIRST, 0, 0, 0);
         Due.is("its dealer", FIRST, port.ofLot(0, 4));
         Due.is("on its last day", 2, port.deal(0, SECOND, 0));
-        Supplier<FreePort> untilToday = () -> after(soldToFirst(), x -> x.consign(0, FIRST, 0, 0, 0));
+        Supplier<FreePort> untilToday = () -> Scenes.after(soldToFirst(), x -> x.consign(0, FIRST, 0, 0, 0));
         Due.notNow(untilToday, "back on the end", x -> x.back(0));
         Due.is("back behind it", FIRST, passed(untilToday.get(), 1).back(0));
         Due.notNow(() -> passed(untilToday.get(), 1), "deal behind it", x -> x.deal(0, SECOND, 0));
-        Supplier<FreePort> long1000 = () -> passed(after(soldToFirst(), x -> x.consign(0, FIRST, 0, 0, 1000)), 1000);
+        Supplier<FreePort> long1000 =
+            () -> passed(Scenes.after(soldToFirst(), x -> x.consign(0, FIRST, 0, 0, 1000)), 1000);
         Due.is("deal on day 1000", 2, long1000.get().deal(0, SECOND, 0));
         Due.notNow(long1000, "back on day 1000", x -> x.back(0));
         Due.is("back on day 1001", FIRST, passed(long1000.get(), 1).back(0));
@@ -255,16 +247,16 @@ final class SalesTest {
         Due.outOfRange(made, "days -1", x -> x.consign(1, SECOND, 0, 0, -1));
         Due.outOfRange(made, "days 1001", x -> x.consign(1, SECOND, 0, 0, 1001));
         Due.outOfRange(made, "to the holder", x -> x.consign(1, FIRST, 0, 0, 0));
-        Supplier<FreePort> empty = () -> after(soldToFirst(), x -> x.sell(1, 40, SECOND, 0));
+        Supplier<FreePort> empty = () -> Scenes.after(soldToFirst(), x -> x.sell(1, 40, SECOND, 0));
         Due.notNow(empty, "0 parts", x -> x.consign(1, SECOND, 0, 0, 0));
         Due.outOfRange(empty, "0 parts, to the holder", x -> x.consign(1, FIRST, 0, 0, 0));
-        Supplier<FreePort> dealt = () -> after(soldToFirst(), x -> x.consign(1, THIRD, 0, 0, 0));
+        Supplier<FreePort> dealt = () -> Scenes.after(soldToFirst(), x -> x.consign(1, THIRD, 0, 0, 0));
         Due.notNow(dealt, "a dealer", x -> x.consign(1, SECOND, 0, 0, 0));
         Due.notNow(dealt, "the same dealer", x -> x.consign(1, THIRD, 0, 0, 0));
         Due.outOfRange(dealt, "a dealer, percent 51", x -> x.consign(1, SECOND, 0, 51, 0));
-        Supplier<FreePort> holderFailed = () -> after(soldToFirst(), x -> x.fail(FIRST));
+        Supplier<FreePort> holderFailed = () -> Scenes.after(soldToFirst(), x -> x.fail(FIRST));
         Due.notNow(holderFailed, "the holder has failed", x -> x.consign(1, SECOND, 0, 0, 0));
-        Supplier<FreePort> dealerFailed = () -> after(soldToFirst(), x -> x.fail(SECOND));
+        Supplier<FreePort> dealerFailed = () -> Scenes.after(soldToFirst(), x -> x.fail(SECOND));
         Due.notNow(dealerFailed, "the dealer has failed", x -> x.consign(1, SECOND, 0, 0, 0));
     }
 
@@ -288,7 +280,7 @@ final class SalesTest {
         Due.notNow(SalesTest::consigned, "back without a dealer", x -> x.back(0));
         Due.notNow(SalesTest::consigned, "back on the first day", x -> x.back(1));
         Due.notNow(() -> passed(consigned(), 5), "back on the end", x -> x.back(1));
-        Due.notNow(() -> after(passed(consigned(), 6), x -> x.back(1)), "back again", x -> x.back(1));
+        Due.notNow(() -> Scenes.after(passed(consigned(), 6), x -> x.back(1)), "back again", x -> x.back(1));
     }
 
     private static void promise18Deal() {
@@ -339,24 +331,24 @@ final class SalesTest {
     }
 
     private static void promise18Bars() {
-        Supplier<FreePort> holderFailed = () -> after(consigned(), x -> x.fail(FIRST));
+        Supplier<FreePort> holderFailed = () -> Scenes.after(consigned(), x -> x.fail(FIRST));
         Due.notNow(holderFailed, "FAILED, the holder", x -> x.deal(1, THIRD, 500));
-        Supplier<FreePort> buyerFailed = () -> after(consigned(), x -> x.fail(THIRD));
+        Supplier<FreePort> buyerFailed = () -> Scenes.after(consigned(), x -> x.fail(THIRD));
         Due.notNow(buyerFailed, "FAILED, the buyer", x -> x.deal(1, THIRD, 500));
-        Supplier<FreePort> dealerFailed = () -> after(consigned(), x -> x.fail(SECOND));
+        Supplier<FreePort> dealerFailed = () -> Scenes.after(consigned(), x -> x.fail(SECOND));
         Due.notNow(dealerFailed, "FAILED, the dealer", x -> x.deal(1, THIRD, 500));
-        Supplier<FreePort> barred = () -> after(consigned(), x -> x.bar(0, 6));
+        Supplier<FreePort> barred = () -> Scenes.after(consigned(), x -> x.bar(0, 6));
         Due.notNow(barred, "BARRED", x -> x.deal(1, THIRD, 500));
         Due.is("not BARRED", 2, barred.get().deal(1, ARTIST, 500));
         Due.notNow(SalesTest::consigned, "POOR", x -> x.deal(1, THIRD, 10001));
         Due.is("not POOR", 2, consigned().deal(1, THIRD, 10000));
-        Supplier<FreePort> punished = () -> after(soldToFirst(), x -> {
+        Supplier<FreePort> punished = () -> Scenes.after(soldToFirst(), x -> {
             x.sell(1, 1, SECOND, 0);
             x.consign(0, THIRD, 0, 0, 9);
         });
         Due.notNow(punished, "PUNISHED", x -> x.deal(0, FIRST, 0));
         Due.is("not PUNISHED", 3, punished.get().deal(0, SECOND, 0));
-        Supplier<FreePort> full = () -> after(full(), x -> x.consign(0, 1, 0, 0, 9));
+        Supplier<FreePort> full = () -> Scenes.after(full(), x -> x.consign(0, 1, 0, 0, 9));
         Due.notNow(full, "FULL", x -> x.deal(0, 2, 0));
     }
 
@@ -373,7 +365,7 @@ final class SalesTest {
         Due.notNow(made, "deal without a dealer", x -> x.deal(0, THIRD, 600));
         Due.notNow(made, "below the floor", x -> x.deal(1, THIRD, 499));
         Due.notNow(() -> passed(consigned(), 6), "behind the end", x -> x.deal(1, THIRD, 600));
-        Due.notNow(() -> after(consigned(), x -> x.deal(1, THIRD, 600)), "dealt", x -> x.deal(1, THIRD, 600));
+        Due.notNow(() -> Scenes.after(consigned(), x -> x.deal(1, THIRD, 600)), "dealt", x -> x.deal(1, THIRD, 600));
     }
 
     private static void promise19Tell() {
@@ -447,8 +439,8 @@ final class SalesTest {
         Due.notNow(SalesTest::looted, "came by none", x -> x.restore(0, FIRST));
         Due.notNow(SalesTest::looted, "came ahead of the listing", x -> x.restore(1, THIRD));
         Due.notNow(SalesTest::soldToFirst, "not listed", x -> x.restore(1, THIRD));
-        Due.notNow(() -> after(looted(), x -> x.fail(THIRD)), "the heir has failed", x -> x.restore(2, THIRD));
-        Due.notNow(() -> after(looted(), x -> x.sell(2, 10, THIRD, 0)), "0 parts", x -> x.restore(2, FIRST));
-        Due.notNow(() -> after(looted(), x -> x.restore(2, THIRD)), "given back", x -> x.restore(2, FIRST));
+        Due.notNow(() -> Scenes.after(looted(), x -> x.fail(THIRD)), "the heir has failed", x -> x.restore(2, THIRD));
+        Due.notNow(() -> Scenes.after(looted(), x -> x.sell(2, 10, THIRD, 0)), "0 parts", x -> x.restore(2, FIRST));
+        Due.notNow(() -> Scenes.after(looted(), x -> x.restore(2, THIRD)), "given back", x -> x.restore(2, FIRST));
     }
 }

@@ -78,12 +78,13 @@ final class Scenes {
         return port;
     }
 
+    static FreePort after(FreePort port, Consumer<FreePort> step) {
+        step.accept(port);
+        return port;
+    }
+
     static Supplier<FreePort> after(Supplier<FreePort> made, Consumer<FreePort> step) {
-        return () -> {
-            FreePort port = made.get();
-            step.accept(port);
-            return port;
-        };
+        return () -> after(made.get(), step);
     }
 
     static Supplier<FreePort> passed(Supplier<FreePort> made, int days) {

@@ -113,8 +113,8 @@ final class TermsEdges {
 
     /** A price of 99 and 100 at 1 percent, 1 and 2 percent of 50, and so on: a product that is just too small. */
     private static void rounded() {
-        Doc.terms("All numbers are whole. Where something is divided, it is rounded towards 0; "
-            + "products are made ahead of being divided.");
+        Doc.terms("All numbers are whole. Where something is divided, it is rounded towards 0; products are made "
+            + "ahead of being divided.");
         int[][] rights = {{99, 1, 0}, {100, 1, 1}, {49, 2, 0}, {50, 2, 1}, {4, 20, 0}, {5, 20, 1}, {999, 10, 99}};
         for (int[] row : rights) {
             FreePort port = Scenes.sold();
@@ -198,8 +198,8 @@ final class TermsEdges {
         }
         Due.same("another one", "IllegalStateException", Due.thrownBy(port, x -> x.sell(59, 60, THIRD, 0)));
         Due.same("number 60", "IndexOutOfBoundsException", Due.thrownBy(port, x -> x.ofLot(60, 0)));
-        Doc.terms("at times a LOAN, and a DEALER; it came from another lot, or from none; "
-            + "and it came by a SALE, on a day, for a price, or by none.");
+        Doc.terms("at times a LOAN, and a DEALER; it came from another lot, or from none; and it came by a SALE, on "
+            + "a day, for a price, or by none.");
         FreePort with = Scenes.passed(Scenes::fresh, 5).get();
         with.sell(0, 40, FIRST, 1000);
         with.lend(1, SECOND, 1, 0, 1);
@@ -221,8 +221,9 @@ final class TermsEdges {
     }
 
     private static void newLots() {
-        Doc.terms("PARTS of a lot go to somebody in a new lot: it has these PARTS, that HOLDER, the LOAN of the old one, "
-            + "if that has one, no DEALER, and came from the old one, which has as many PARTS less (it may have 0 then).");
+        Doc.terms("PARTS of a lot go to somebody in a new lot: it has these PARTS, that HOLDER, the LOAN of the old "
+            + "one, if that has one, no DEALER, and came from the old one, which has as many PARTS less (it may "
+            + "have 0 then).");
         for (int parts : new int[] {1, 39, 40}) {
             FreePort port = Scenes.sold();
             Due.is("sell(1, " + parts + ", ..)", 2, port.sell(1, parts, THIRD, 0));
@@ -256,8 +257,8 @@ final class TermsEdges {
         Due.is("0 now", 0, port.doubt(0, 2));
         Due.outOfRange(Scenes::fresh, "10", x -> x.weight(FIRST, 10));
         Due.outOfRange(Scenes::fresh, "-1", x -> x.weight(FIRST, -1));
-        Doc.terms("An expert's word on a work says that it is right, or not, on its day; "
-            + "of words of one expert on one work the latest one told by then counts.");
+        Doc.terms("An expert's word on a work says that it is right, or not, on its day; of words of one expert on "
+            + "one work the latest one told by then counts.");
         FreePort told = Scenes.fresh();
         told.work(ARTIST, 0);
         told.weight(FIRST, 2);
@@ -277,8 +278,8 @@ final class TermsEdges {
     }
 
     private static void words() {
-        Doc.terms("The doubt of a work on a day is the sum of the weights of the experts whose word by that day, that day "
-            + "with it, says that it is not right, less the sum of those whose word says that it is.");
+        Doc.terms("The doubt of a work on a day is the sum of the weights of the experts whose word by that day, "
+            + "that day with it, says that it is not right, less the sum of those whose word says that it is.");
         FreePort port = Scenes.fresh();
         for (int expert = 0; expert < 4; expert++) {
             port.weight(expert, 6 + expert);
@@ -351,8 +352,8 @@ final class TermsEdges {
     private static void constants() {
         Doc.terms("The constants: NONE = -1: There is none.");
         Due.is("NONE", -1, FreePort.NONE);
-        Doc.terms("FAILED = 1, SHORT = 2, CONSIGNED = 3, BARRED = 4, POOR = 5, PUNISHED = 6, FULL = 7: "
-            + "By what a sale is barred.");
+        Doc.terms("FAILED = 1, SHORT = 2, CONSIGNED = 3, BARRED = 4, POOR = 5, PUNISHED = 6, FULL = 7: By what a "
+            + "sale is barred.");
         int[] constants = {FreePort.FAILED, FreePort.SHORT, FreePort.CONSIGNED, FreePort.BARRED, FreePort.POOR,
             FreePort.PUNISHED, FreePort.FULL};
         for (int i = 0; i < constants.length; i++) {
