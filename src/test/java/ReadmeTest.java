@@ -4,6 +4,7 @@ import java.lang.reflect.Method;
 import java.lang.reflect.Modifier;
 import java.nio.charset.StandardCharsets;
 import java.nio.file.Files;
+import java.nio.file.Path;
 import java.util.regex.Matcher;
 import java.util.regex.Pattern;
 
@@ -17,6 +18,7 @@ final class ReadmeTest {
         theProgramPrintsWhatThePageSays();
         theCallsAnswerAsThePageSays();
         everyMethodIsShown();
+        theNumbersAreThoseOfTheDocument();
         theTestsAreThoseOfThePage();
         RunEdges.run();
         Due.end("ReadmeTest");
@@ -75,6 +77,18 @@ final class ReadmeTest {
                 Due.is(method.getName() + " is shown", true, shown.contains("port." + method.getName() + "("));
             }
         }
+    }
+
+    private static void theNumbersAreThoseOfTheDocument() throws IOException {
+        String document = Files.readString(Path.of("../shared/DOC.md"), StandardCharsets.UTF_8).replaceAll("\\s+", " ");
+        String page = Readme.section("What the numbers mean").replaceAll("\n  +", " ");
+        Matcher quotes = Pattern.compile("- `(\\w+)`: (.*)").matcher(page);
+        StringBuilder named = new StringBuilder();
+        while (quotes.find()) {
+            named.append(quotes.group(1)).append(' ');
+            Due.is("in the document: " + quotes.group(2), true, document.contains(quotes.group(2)));
+        }
+        Due.same("told by numbers", "ofParty ofWork ofLot ofLoan bars barredBy ", named.toString());
     }
 
     private static void theTestsAreThoseOfThePage() throws IOException {

@@ -19,11 +19,12 @@ final class Room {
         Files.writeString(to, text, StandardCharsets.UTF_8);
     }
 
-    /** Copies a file of this project to a folder of the room, executable as it is. */
+    /** Copies a file of this project to a folder of the room, as one that can be run. */
     void copy(String file, String to) throws IOException {
         Path copied = folder.resolve(to).resolve(file);
         Files.createDirectories(copied.getParent());
-        Files.copy(Path.of(file), copied, StandardCopyOption.REPLACE_EXISTING, StandardCopyOption.COPY_ATTRIBUTES);
+        Files.copy(Path.of(file), copied, StandardCopyOption.REPLACE_EXISTING);
+        copied.toFile().setExecutable(true);
     }
 
     void delete(String file) throws IOException {
